@@ -117,6 +117,8 @@ public final class GrossesTest {
         Due.badArgument(x, () -> x.order(1, 1, 9));
         Due.badArgument(x, () -> x.order(1, 10, 11));
         Due.same(false, x.isLate(11));
+        // The document tells no last hour for an order, as things are ready behind 9999 too.
+        Due.same(0, new Graphline().order(1, 1, 10000));
         Due.outOfBounds(x, () -> x.isLate(12));
         Due.outOfBounds(x, () -> x.isLate(-1));
     }

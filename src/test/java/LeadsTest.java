@@ -3,6 +3,7 @@ public final class LeadsTest {
     public static void main(String[] args) {
         pressWrongly();
         wear();
+        wornTo199();
         pressFully();
         dry();
         warp();
@@ -14,6 +15,7 @@ public final class LeadsTest {
         draw();
         wheelDrifts();
         wheelEndsAt999();
+        drawsNoDarkness();
         Due.end();
     }
 
@@ -76,6 +78,9 @@ public final class LeadsTest {
             Due.badArgument(x, () -> x.worn(die));
             Due.badArgument(x, () -> x.renew(die));
         }
+        Due.same(2, x.renew(3));
+        x.press(0, 0, 4);
+        Due.same(8, x.renew(0));
         Graphline fine = Bench.mixed();
         fine.press(0, 1, 9);
         Due.same(1, fine.worn(1));
@@ -83,6 +88,20 @@ public final class LeadsTest {
         Due.same(1, fine.worn(1));
         fine.press(0, 1, 5);
         Due.same(2, fine.worn(1));
+    }
+
+    /** A fineness of 5 wears a die by one for each kilo. */
+    private static void wornTo199() {
+        Graphline x = new Graphline();
+        x.lot('g', 90, 6, 500);
+        x.lot('c', 80, 2, 500);
+        x.mix(0, 1, 200, 200, 2);
+        Due.same(5, x.mixture(0, 'f'));
+        x.press(0, 0, 199);
+        Due.same(199, x.worn(0));
+        Due.same(24, x.batch(x.press(0, 0, 1), 'b'));
+        Due.same(200, x.worn(0));
+        Due.unsupported(x, () -> x.press(0, 0, 1));
     }
 
     private static void pressFully() {
@@ -139,6 +158,11 @@ public final class LeadsTest {
         x.dry(2, 2);
         Due.same(320, x.batch(2, 'w'));
         Due.same(15680, x.batch(2, 'n'));
+        Graphline most = coarse();
+        most.press(0, 0, 1000);
+        most.dry(0, 5);
+        Due.same(1600, most.batch(0, 'w'));
+        Due.same(18400, most.batch(0, 'n'));
         Graphline fine = Bench.mixed();
         fine.press(0, 0, 100);
         Due.same(0, fine.batch(0, 'w'));
@@ -203,6 +227,7 @@ public final class LeadsTest {
         fires(90, 3, 4, 60, 40, 5, 900, 6, 348, 565);
         fires(90, 9, 9, 20, 10, 1, 1200, 12, 300, 550);
         fires(50, 1, 1, 1, 500, 9, 1200, 12, 840, 0);
+        fires(50, 1, 1, 1, 499, 9, 1200, 12, 839, 0);
         fires(50, 9, 9, 1, 500, 1, 709, 1, 114, 0);
         fires(99, 1, 1, 500, 1, 9, 700, 1, 186, 999);
         fires(99, 1, 1, 500, 5, 9, 759, 3, 198, 999);
@@ -330,5 +355,21 @@ public final class LeadsTest {
         Due.same(999, x.draw(0));
         Due.same(66, x.check());
         Due.same(936, x.draw(0));
+    }
+
+    private static void drawsNoDarkness() {
+        Graphline x = new Graphline();
+        x.lot('g', 50, 9, 500);
+        x.lot('c', 50, 9, 500);
+        x.mix(0, 1, 1, 500, 1);
+        x.press(0, 0, 1);
+        x.dry(0, 1);
+        x.go(18);
+        x.fire(0, 0, 1200, 1);
+        x.go(1);
+        for (int i = 0; i < 8; i++) {
+            Due.same(0, x.draw(0));
+        }
+        Due.same(3, x.draw(0));
     }
 }

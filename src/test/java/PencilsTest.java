@@ -9,6 +9,7 @@ public final class PencilsTest {
         coat();
         stamp();
         stampDraws();
+        stampOf0();
         erase();
         run();
         fall();
@@ -211,6 +212,31 @@ public final class PencilsTest {
         Due.same(936, x.draw(0));
     }
 
+    /** A grade of 0 is a stamp as well. */
+    private static void stampOf0() {
+        Graphline x = new Graphline();
+        x.lot('g', 50, 9, 500);
+        x.lot('c', 50, 9, 500);
+        x.mix(0, 1, 1, 500, 1);
+        x.press(0, 0, 10);
+        x.dry(0, 1);
+        x.go(18);
+        x.fire(0, 0, 700, 1);
+        x.go(1);
+        x.slats('c', 0, 0, 100);
+        x.groove(0, 10);
+        x.lay(0, 0, '6', 60, 7);
+        x.gross(0);
+        x.go(6);
+        Bench.coats(x, 0);
+        Due.unsupported(x, () -> x.pack(0, 0, 1));
+        Due.same(0, x.stamp(0));
+        Due.unsupported(x, () -> x.stamp(0));
+        Due.same(60, x.erase(0, 1));
+        Due.same(60, x.pack(0, 0, 60));
+        Due.same(true, x.claim(0));
+    }
+
     private static void erase() {
         Graphline x = Bench.coated(100);
         Due.outOfBounds(x, () -> x.erase(1, 10));
@@ -259,6 +285,8 @@ public final class PencilsTest {
         Due.same(17, x.fall(0, 9));
         Due.same(100, x.run(0, 'b'));
         Due.same(0, x.fall(0, 9));
+        Due.same(197, Bench.laid(479).fall(0, 9));
+        Due.same(0, Bench.laid(500).fall(0, 4));
         Graphline strong = Bench.laid(100);
         strong.soak(0, 5);
         Due.same(28, strong.fall(0, 9));

@@ -71,6 +71,7 @@ public final class SumsTest {
         Due.same(41f / 100f, x.brokenShare());
         x.lay(0, 0, '6', 23, 0);
         Due.same(41f / 123f, x.brokenShare());
+        Due.same(0.0f, Bench.laid(1).brokenShare());
         Graphline gone = Bench.laid(50);
         gone.sample(0, 50);
         Due.thrown(ArithmeticException.class, gone, () -> gone.brokenShare());
