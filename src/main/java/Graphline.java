@@ -500,8 +500,8 @@ public final class Graphline {
     }
 
     public int order(int grade, int grosses, int until) throws IllegalArgumentException, IllegalStateException {
-        if (isOutside(grade, 0, BEST_GRADE) || isOutside(grosses, 1, 9)) {
-            throw new IllegalArgumentException("the grade or the grosses are out of range");
+        if (isOutside(grade, 0, BEST_GRADE) || isOutside(grosses, 1, 9) || isOutside(until, 0, LAST_HOUR)) {
+            throw new IllegalArgumentException("the grade, the grosses or the hour are out of range");
         }
         if (until < clock) {
             throw new IllegalArgumentException("the hour has gone by");

@@ -108,6 +108,9 @@ public final class GrossesTest {
         Due.badArgument(x, () -> x.order(0, 1, 9));
         Due.badArgument(x, () -> x.order(0, 1, -1));
         Due.badArgument(x, () -> x.order(0, 1, Integer.MIN_VALUE));
+        Due.badArgument(x, () -> x.order(0, 1, 10000));
+        Due.badArgument(x, () -> x.order(0, 1, 270371432));
+        Due.badArgument(x, () -> x.order(0, 1, Integer.MAX_VALUE));
         Due.same(0, x.order(0, 1, 10));
         Due.same(1, x.order(19, 9, 9999));
         for (int i = 2; i < 12; i++) {
@@ -117,10 +120,22 @@ public final class GrossesTest {
         Due.badArgument(x, () -> x.order(1, 1, 9));
         Due.badArgument(x, () -> x.order(1, 10, 11));
         Due.same(false, x.isLate(11));
-        // The document tells no last hour for an order, as things are ready behind 9999 too.
-        Due.same(0, new Graphline().order(1, 1, 10000));
+        Due.badArgument(x, () -> x.order(1, 1, 10000));
         Due.outOfBounds(x, () -> x.isLate(12));
         Due.outOfBounds(x, () -> x.isLate(-1));
+        orderAtTheLastHour();
+    }
+
+    private static void orderAtTheLastHour() {
+        Graphline x = new Graphline();
+        for (int i = 0; i < 19; i++) {
+            x.go(500);
+        }
+        x.go(499);
+        Due.badArgument(x, () -> x.order(0, 1, 9998));
+        Due.badArgument(x, () -> x.order(0, 1, 10000));
+        Due.same(0, x.order(0, 1, 9999));
+        Due.same(false, x.isLate(0));
     }
 
     /** Grosses 0 and 1 are full and of grade 18, gross 2 is of 12 pencils, gross 3 of grade 17; the hour is 49. */
