@@ -12,13 +12,13 @@ public final class ClockAndShaftTest {
 
     private static void newObject() {
         Graphline x = new Graphline();
-        Due.outOfBounds(x, () -> x.kilos(0));
-        Due.outOfBounds(x, () -> x.mixture(0, 'c'));
-        Due.outOfBounds(x, () -> x.batch(0, 'n'));
-        Due.outOfBounds(x, () -> x.slat(0, 'n'));
-        Due.outOfBounds(x, () -> x.run(0, 'n'));
-        Due.outOfBounds(x, () -> x.parts(0));
-        Due.outOfBounds(x, () -> x.isLate(0));
+        Due.outOfBounds(() -> x.kilos(0));
+        Due.outOfBounds(() -> x.mixture(0, 'c'));
+        Due.outOfBounds(() -> x.batch(0, 'n'));
+        Due.outOfBounds(() -> x.slat(0, 'n'));
+        Due.outOfBounds(() -> x.run(0, 'n'));
+        Due.outOfBounds(() -> x.parts(0));
+        Due.outOfBounds(() -> x.isLate(0));
         for (char machine : "mpgc".toCharArray()) {
             Due.same(true, x.runs(machine));
             Due.same('-', x.belt(machine, '-'));
@@ -34,20 +34,20 @@ public final class ClockAndShaftTest {
 
     private static void go() {
         Graphline x = new Graphline();
-        Due.badArgument(x, () -> x.go(0));
-        Due.badArgument(x, () -> x.go(-1));
-        Due.badArgument(x, () -> x.go(501));
-        Due.badArgument(x, () -> x.go(Integer.MAX_VALUE));
-        Due.badArgument(x, () -> x.go(Integer.MIN_VALUE));
+        Due.badArgument(() -> x.go(0));
+        Due.badArgument(() -> x.go(-1));
+        Due.badArgument(() -> x.go(501));
+        Due.badArgument(() -> x.go(Integer.MAX_VALUE));
+        Due.badArgument(() -> x.go(Integer.MIN_VALUE));
         for (int i = 1; i < 20; i++) {
             Due.same(500 * i, x.go(500));
         }
-        Due.badState(x, () -> x.go(500));
+        Due.badState(() -> x.go(500));
         Due.same(9998, x.go(498));
-        Due.badState(x, () -> x.go(2));
+        Due.badState(() -> x.go(2));
         Due.same(9999, x.go(1));
-        Due.badState(x, () -> x.go(1));
-        Due.badArgument(x, () -> x.go(501));
+        Due.badState(() -> x.go(1));
+        Due.badArgument(() -> x.go(501));
     }
 
     private static void shaft() {
@@ -67,14 +67,14 @@ public final class ClockAndShaftTest {
 
     private static void belt() {
         Graphline x = new Graphline();
-        Due.badArgument(x, () -> x.belt('x', 'm'));
-        Due.badArgument(x, () -> x.belt('m', 'x'));
-        Due.badArgument(x, () -> x.belt('-', 'm'));
-        Due.badArgument(x, () -> x.belt('-', '-'));
-        Due.badArgument(x, () -> x.belt('m', 'm'));
-        Due.badArgument(x, () -> x.belt('M', '-'));
-        Due.badArgument(x, () -> x.belt((char) 0, '-'));
-        Due.badArgument(x, () -> x.belt('m', (char) 65535));
+        Due.badArgument(() -> x.belt('x', 'm'));
+        Due.badArgument(() -> x.belt('m', 'x'));
+        Due.badArgument(() -> x.belt('-', 'm'));
+        Due.badArgument(() -> x.belt('-', '-'));
+        Due.badArgument(() -> x.belt('m', 'm'));
+        Due.badArgument(() -> x.belt('M', '-'));
+        Due.badArgument(() -> x.belt((char) 0, '-'));
+        Due.badArgument(() -> x.belt('m', (char) 65535));
         Due.same('-', x.belt('m', 'p'));
         Due.same('p', x.belt('m', 'p'));
         Due.same('p', x.belt('m', 'g'));
@@ -86,19 +86,19 @@ public final class ClockAndShaftTest {
     private static void ring() {
         Graphline x = new Graphline();
         x.belt('m', 'p');
-        Due.unsupported(x, () -> x.belt('p', 'm'));
+        Due.unsupported(() -> x.belt('p', 'm'));
         x.belt('p', 'g');
-        Due.unsupported(x, () -> x.belt('g', 'm'));
-        Due.unsupported(x, () -> x.belt('g', 'p'));
+        Due.unsupported(() -> x.belt('g', 'm'));
+        Due.unsupported(() -> x.belt('g', 'p'));
         x.belt('g', 'c');
-        Due.unsupported(x, () -> x.belt('c', 'm'));
-        Due.unsupported(x, () -> x.belt('c', 'p'));
-        Due.unsupported(x, () -> x.belt('c', 'g'));
-        Due.badArgument(x, () -> x.belt('c', 'c'));
+        Due.unsupported(() -> x.belt('c', 'm'));
+        Due.unsupported(() -> x.belt('c', 'p'));
+        Due.unsupported(() -> x.belt('c', 'g'));
+        Due.badArgument(() -> x.belt('c', 'c'));
         Due.same(true, x.runs('m'));
         Due.same('p', x.belt('m', 'c'));
         Due.same('-', x.belt('c', '-'));
-        Due.unsupported(x, () -> x.belt('c', 'm'));
+        Due.unsupported(() -> x.belt('c', 'm'));
         Due.same('c', x.belt('m', '-'));
         Due.same('-', x.belt('c', 'm'));
         Due.same(true, x.isSound());
@@ -106,10 +106,10 @@ public final class ClockAndShaftTest {
 
     private static void on() {
         Graphline x = new Graphline();
-        Due.badArgument(x, () -> x.on('-', true));
-        Due.badArgument(x, () -> x.on('x', false));
-        Due.badArgument(x, () -> x.runs('-'));
-        Due.badArgument(x, () -> x.runs('s'));
+        Due.badArgument(() -> x.on('-', true));
+        Due.badArgument(() -> x.on('x', false));
+        Due.badArgument(() -> x.runs('-'));
+        Due.badArgument(() -> x.runs('s'));
         Due.same(true, x.on('m', true));
         Due.same(true, x.on('m', false));
         Due.same(false, x.on('m', false));

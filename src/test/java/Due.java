@@ -18,9 +18,8 @@ final class Due {
         }
     }
 
-    /** The call throws exactly this exception, by a throw statement of Graphline, and nothing that can be read is changed. */
-    static void thrown(Class<? extends RuntimeException> want, Graphline x, Call call) {
-        String before = Readings.of(x);
+    /** The call throws exactly this exception, by a throw statement of Graphline. What it must not change, Bounds asks. */
+    static void thrown(Class<? extends RuntimeException> want, Call call) {
         String got = "nothing thrown";
         try {
             call.answer();
@@ -28,23 +27,22 @@ final class Due {
             got = isOwn(e) ? e.getClass().getName() : "the machine's " + e;
         }
         same(want.getName(), got);
-        same(before, Readings.of(x));
     }
 
-    static void outOfBounds(Graphline x, Call call) {
-        thrown(IndexOutOfBoundsException.class, x, call);
+    static void outOfBounds(Call call) {
+        thrown(IndexOutOfBoundsException.class, call);
     }
 
-    static void badArgument(Graphline x, Call call) {
-        thrown(IllegalArgumentException.class, x, call);
+    static void badArgument(Call call) {
+        thrown(IllegalArgumentException.class, call);
     }
 
-    static void unsupported(Graphline x, Call call) {
-        thrown(UnsupportedOperationException.class, x, call);
+    static void unsupported(Call call) {
+        thrown(UnsupportedOperationException.class, call);
     }
 
-    static void badState(Graphline x, Call call) {
-        thrown(IllegalStateException.class, x, call);
+    static void badState(Call call) {
+        thrown(IllegalStateException.class, call);
     }
 
     /** Graphline's own throws stand in the first frame; the library's and most of the machine's do not. */
@@ -68,10 +66,14 @@ final class Due {
 
     private static String place() {
         int up = 2;
-        while (caller(up).getClassName().equals("Due")) {
+        while (isAsking(caller(up).getClassName())) {
             up++;
         }
         return caller(up).getFileName() + ":" + caller(up).getLineNumber();
+    }
+
+    private static boolean isAsking(String name) {
+        return name.equals("Due") || name.startsWith("Bounds");
     }
 
     private static StackTraceElement caller(int up) {

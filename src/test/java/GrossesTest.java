@@ -18,61 +18,61 @@ public final class GrossesTest {
 
     private static void gross() {
         Graphline x = new Graphline();
-        Due.badArgument(x, () -> x.gross(-1));
-        Due.badArgument(x, () -> x.gross(20));
+        Due.badArgument(() -> x.gross(-1));
+        Due.badArgument(() -> x.gross(20));
         for (int i = 0; i < 30; i++) {
             Due.same(i, x.gross(i % 20));
         }
-        Due.badState(x, () -> x.gross(0));
-        Due.badArgument(x, () -> x.gross(20));
+        Due.badState(() -> x.gross(0));
+        Due.badArgument(() -> x.gross(20));
         Due.same(0, x.parts(29));
-        Due.outOfBounds(x, () -> x.parts(30));
+        Due.outOfBounds(() -> x.parts(30));
     }
 
     private static void packWrongly() {
-        Graphline x = Bench.stamped(200);
+        Graphline x = Bench.stamped(200).told();
         x.gross(18);
         x.gross(17);
-        Due.outOfBounds(x, () -> x.pack(2, 0, 0));
-        Due.outOfBounds(x, () -> x.pack(0, 1, 0));
-        Due.outOfBounds(x, () -> x.pack(-1, 0, 1));
-        Due.outOfBounds(x, () -> x.pack(0, -1, 1));
-        Due.badArgument(x, () -> x.pack(0, 0, 0));
-        Due.badArgument(x, () -> x.pack(0, 0, 145));
-        Due.badArgument(x, () -> x.pack(1, 0, -1));
-        Due.unsupported(x, () -> x.pack(1, 0, 1));
+        Due.outOfBounds(() -> x.pack(2, 0, 0));
+        Due.outOfBounds(() -> x.pack(0, 1, 0));
+        Due.outOfBounds(() -> x.pack(-1, 0, 1));
+        Due.outOfBounds(() -> x.pack(0, -1, 1));
+        Due.badArgument(() -> x.pack(0, 0, 0));
+        Due.badArgument(() -> x.pack(0, 0, 145));
+        Due.badArgument(() -> x.pack(1, 0, -1));
+        Due.unsupported(() -> x.pack(1, 0, 1));
         Due.same(100, x.pack(0, 0, 100));
         Due.same(100, x.run(0, 'n'));
-        Due.unsupported(x, () -> x.pack(0, 0, 45));
+        Due.unsupported(() -> x.pack(0, 0, 45));
         Due.same(144, x.pack(0, 0, 44));
         Due.same(56, x.run(0, 'n'));
-        Due.unsupported(x, () -> x.pack(0, 0, 1));
+        Due.unsupported(() -> x.pack(0, 0, 1));
         x.gross(18);
-        Due.unsupported(x, () -> x.pack(2, 0, 57));
+        Due.unsupported(() -> x.pack(2, 0, 57));
         Due.same(56, x.pack(2, 0, 56));
         Due.same(0, x.run(0, 'n'));
-        Due.unsupported(x, () -> x.pack(2, 0, 1));
+        Due.unsupported(() -> x.pack(2, 0, 1));
         x.order(18, 2, 9000);
         x.ship(0, 0);
-        Due.unsupported(x, () -> x.pack(0, 0, 1));
+        Due.unsupported(() -> x.pack(0, 0, 1));
         Due.same(0, x.missing());
     }
 
     private static void packReady() {
-        Graphline x = Bench.coated(200);
+        Graphline x = Bench.coated(200).told();
         x.gross(18);
-        Due.unsupported(x, () -> x.pack(0, 0, 1));
+        Due.unsupported(() -> x.pack(0, 0, 1));
         x.stamp(0);
         x.coat(0, 1);
-        Due.unsupported(x, () -> x.pack(0, 0, 1));
+        Due.unsupported(() -> x.pack(0, 0, 1));
         x.go(7);
-        Due.unsupported(x, () -> x.pack(0, 0, 1));
+        Due.unsupported(() -> x.pack(0, 0, 1));
         x.go(1);
         Due.same(1, x.pack(0, 0, 1));
     }
 
     private static void brokenGoLast() {
-        Graphline x = Bench.stamped(100);
+        Graphline x = Bench.stamped(100).told();
         x.fall(0, 9);
         Due.same(41, x.run(0, 'b'));
         x.gross(18);
@@ -88,7 +88,7 @@ public final class GrossesTest {
         Due.same(0, x.trace(0, 1, 'x'));
         Due.same(20, x.trace(0, 2, 'x'));
         Due.same(1, x.trace(1, 0, 'x'));
-        Graphline some = Bench.stamped(100);
+        Graphline some = Bench.stamped(100).told();
         some.fall(0, 9);
         some.gross(18);
         some.pack(0, 0, 70);
@@ -101,28 +101,28 @@ public final class GrossesTest {
     private static void order() {
         Graphline x = new Graphline();
         x.go(10);
-        Due.badArgument(x, () -> x.order(-1, 1, 10));
-        Due.badArgument(x, () -> x.order(20, 1, 10));
-        Due.badArgument(x, () -> x.order(0, 0, 10));
-        Due.badArgument(x, () -> x.order(0, 10, 10));
-        Due.badArgument(x, () -> x.order(0, 1, 9));
-        Due.badArgument(x, () -> x.order(0, 1, -1));
-        Due.badArgument(x, () -> x.order(0, 1, Integer.MIN_VALUE));
-        Due.badArgument(x, () -> x.order(0, 1, 10000));
-        Due.badArgument(x, () -> x.order(0, 1, 270371432));
-        Due.badArgument(x, () -> x.order(0, 1, Integer.MAX_VALUE));
+        Due.badArgument(() -> x.order(-1, 1, 10));
+        Due.badArgument(() -> x.order(20, 1, 10));
+        Due.badArgument(() -> x.order(0, 0, 10));
+        Due.badArgument(() -> x.order(0, 10, 10));
+        Due.badArgument(() -> x.order(0, 1, 9));
+        Due.badArgument(() -> x.order(0, 1, -1));
+        Due.badArgument(() -> x.order(0, 1, Integer.MIN_VALUE));
+        Due.badArgument(() -> x.order(0, 1, 10000));
+        Due.badArgument(() -> x.order(0, 1, 270371432));
+        Due.badArgument(() -> x.order(0, 1, Integer.MAX_VALUE));
         Due.same(0, x.order(0, 1, 10));
         Due.same(1, x.order(19, 9, 9999));
         for (int i = 2; i < 12; i++) {
             Due.same(i, x.order(1, 1, 11));
         }
-        Due.badState(x, () -> x.order(1, 1, 11));
-        Due.badArgument(x, () -> x.order(1, 1, 9));
-        Due.badArgument(x, () -> x.order(1, 10, 11));
+        Due.badState(() -> x.order(1, 1, 11));
+        Due.badArgument(() -> x.order(1, 1, 9));
+        Due.badArgument(() -> x.order(1, 10, 11));
         Due.same(false, x.isLate(11));
-        Due.badArgument(x, () -> x.order(1, 1, 10000));
-        Due.outOfBounds(x, () -> x.isLate(12));
-        Due.outOfBounds(x, () -> x.isLate(-1));
+        Due.badArgument(() -> x.order(1, 1, 10000));
+        Due.outOfBounds(() -> x.isLate(12));
+        Due.outOfBounds(() -> x.isLate(-1));
         orderAtTheLastHour();
     }
 
@@ -132,15 +132,15 @@ public final class GrossesTest {
             x.go(500);
         }
         x.go(499);
-        Due.badArgument(x, () -> x.order(0, 1, 9998));
-        Due.badArgument(x, () -> x.order(0, 1, 10000));
+        Due.badArgument(() -> x.order(0, 1, 9998));
+        Due.badArgument(() -> x.order(0, 1, 10000));
         Due.same(0, x.order(0, 1, 9999));
         Due.same(false, x.isLate(0));
     }
 
     /** Grosses 0 and 1 are full and of grade 18, gross 2 is of 12 pencils, gross 3 of grade 17; the hour is 49. */
     private static Graphline packed() {
-        Graphline x = Bench.stamped(300);
+        Graphline x = Bench.stamped(300).told();
         x.gross(18);
         x.gross(18);
         x.gross(18);
@@ -156,22 +156,22 @@ public final class GrossesTest {
         x.order(18, 1, 49);
         x.order(18, 3, 49);
         x.order(17, 1, 49);
-        Due.outOfBounds(x, () -> x.ship(3, 0));
-        Due.outOfBounds(x, () -> x.ship(0, 4));
-        Due.outOfBounds(x, () -> x.ship(-1, 0));
-        Due.outOfBounds(x, () -> x.ship(0, -1));
-        Due.unsupported(x, () -> x.ship(0, 2));
-        Due.unsupported(x, () -> x.ship(0, 3));
-        Due.unsupported(x, () -> x.ship(2, 0));
+        Due.outOfBounds(() -> x.ship(3, 0));
+        Due.outOfBounds(() -> x.ship(0, 4));
+        Due.outOfBounds(() -> x.ship(-1, 0));
+        Due.outOfBounds(() -> x.ship(0, -1));
+        Due.unsupported(() -> x.ship(0, 2));
+        Due.unsupported(() -> x.ship(0, 3));
+        Due.unsupported(() -> x.ship(2, 0));
         Due.same(2, x.ship(1, 1));
-        Due.unsupported(x, () -> x.ship(1, 1));
-        Due.unsupported(x, () -> x.ship(0, 1));
+        Due.unsupported(() -> x.ship(1, 1));
+        Due.unsupported(() -> x.ship(0, 1));
         Due.same(0, x.ship(0, 0));
-        Due.unsupported(x, () -> x.ship(1, 0));
+        Due.unsupported(() -> x.ship(1, 0));
         Graphline full = packed();
         full.order(18, 1, 100);
         full.ship(0, 0);
-        Due.unsupported(full, () -> full.ship(0, 1));
+        Due.unsupported(() -> full.ship(0, 1));
         Due.same(0, full.missing());
     }
 
@@ -201,11 +201,11 @@ public final class GrossesTest {
     }
 
     private static void claim() {
-        Graphline x = Bench.stamped(100);
+        Graphline x = Bench.stamped(100).told();
         x.gross(18);
         x.gross(18);
-        Due.outOfBounds(x, () -> x.claim(2));
-        Due.outOfBounds(x, () -> x.claim(-1));
+        Due.outOfBounds(() -> x.claim(2));
+        Due.outOfBounds(() -> x.claim(-1));
         Due.same(true, x.claim(0));
         x.pack(0, 0, 10);
         Due.same(true, x.claim(0));
@@ -270,11 +270,11 @@ public final class GrossesTest {
     }
 
     private static void parts() {
-        Graphline x = Bench.stamped(200);
+        Graphline x = Bench.stamped(200).told();
         x.gross(18);
         x.gross(18);
-        Due.outOfBounds(x, () -> x.parts(2));
-        Due.outOfBounds(x, () -> x.parts(-1));
+        Due.outOfBounds(() -> x.parts(2));
+        Due.outOfBounds(() -> x.parts(-1));
         Due.same(0, x.parts(0));
         for (int i = 1; i <= 144; i++) {
             Due.same(i, x.pack(0, 0, 1));
@@ -282,7 +282,7 @@ public final class GrossesTest {
         }
         Due.same(0, x.parts(1));
         Due.same(1, x.trace(0, 143, 'n'));
-        Due.outOfBounds(x, () -> x.trace(0, 144, 'n'));
+        Due.outOfBounds(() -> x.trace(0, 144, 'n'));
     }
 
     private static void trace() {
@@ -324,14 +324,14 @@ public final class GrossesTest {
         traces(x, 0, new int[] {1, 20, 0, 2, 0, 1, 0, 9, 3, 2});
         traces(x, 1, new int[] {0, 100, x.trace(1, 1, 'x'), 1, 1, 0, 1, 3, 3, 2});
         Due.same(100 * Math.max(0, 360 - x.batch(1, 's')) / 400, x.trace(1, 1, 'x'));
-        Due.badArgument(x, () -> x.trace(1, 0, 'q'));
-        Due.badArgument(x, () -> x.trace(1, 0, 'R'));
-        Due.outOfBounds(x, () -> x.trace(1, 2, 'q'));
-        Due.outOfBounds(x, () -> x.trace(1, -1, 'r'));
-        Due.outOfBounds(x, () -> x.trace(0, 0, 'r'));
-        Due.outOfBounds(x, () -> x.trace(2, 0, 'q'));
-        Due.outOfBounds(x, () -> x.trace(-1, 0, 'r'));
-        Due.outOfBounds(x, () -> x.trace(1, Integer.MAX_VALUE, 'r'));
+        Due.badArgument(() -> x.trace(1, 0, 'q'));
+        Due.badArgument(() -> x.trace(1, 0, 'R'));
+        Due.outOfBounds(() -> x.trace(1, 2, 'q'));
+        Due.outOfBounds(() -> x.trace(1, -1, 'r'));
+        Due.outOfBounds(() -> x.trace(0, 0, 'r'));
+        Due.outOfBounds(() -> x.trace(2, 0, 'q'));
+        Due.outOfBounds(() -> x.trace(-1, 0, 'r'));
+        Due.outOfBounds(() -> x.trace(1, Integer.MAX_VALUE, 'r'));
     }
 
     private static void traces(Graphline x, int part, int[] want) {

@@ -20,27 +20,27 @@ public final class LeadsTest {
     }
 
     private static void pressWrongly() {
-        Graphline x = Bench.mixed();
-        Due.outOfBounds(x, () -> x.press(1, 4, 0));
-        Due.outOfBounds(x, () -> x.press(-1, 0, 1));
-        Due.badArgument(x, () -> x.press(0, -1, 1));
-        Due.badArgument(x, () -> x.press(0, 4, 101));
-        Due.badArgument(x, () -> x.press(0, Integer.MAX_VALUE, 1));
-        Due.badArgument(x, () -> x.press(0, 0, 0));
-        Due.badArgument(x, () -> x.press(0, 0, Integer.MIN_VALUE));
-        Due.unsupported(x, () -> x.press(0, 0, 101));
-        Due.unsupported(x, () -> x.press(0, 0, Integer.MAX_VALUE));
+        Graphline x = Bench.mixed().told();
+        Due.outOfBounds(() -> x.press(1, 4, 0));
+        Due.outOfBounds(() -> x.press(-1, 0, 1));
+        Due.badArgument(() -> x.press(0, -1, 1));
+        Due.badArgument(() -> x.press(0, 4, 101));
+        Due.badArgument(() -> x.press(0, Integer.MAX_VALUE, 1));
+        Due.badArgument(() -> x.press(0, 0, 0));
+        Due.badArgument(() -> x.press(0, 0, Integer.MIN_VALUE));
+        Due.unsupported(() -> x.press(0, 0, 101));
+        Due.unsupported(() -> x.press(0, 0, Integer.MAX_VALUE));
         x.on('p', false);
-        Due.unsupported(x, () -> x.press(0, 0, 1));
+        Due.unsupported(() -> x.press(0, 0, 1));
         x.on('p', true);
         x.shaft(false);
-        Due.unsupported(x, () -> x.press(0, 0, 1));
+        Due.unsupported(() -> x.press(0, 0, 1));
         x.shaft(true);
         x.on('m', false);
         Due.same(0, x.press(0, 0, 100));
         Due.same(2000, x.batch(0, 'n'));
         Due.same(0, x.mixture(0, 'k'));
-        Due.unsupported(x, () -> x.press(0, 0, 1));
+        Due.unsupported(() -> x.press(0, 0, 1));
     }
 
     /** A mixture without fineness wears a die by two for each kilo. */
@@ -65,23 +65,23 @@ public final class LeadsTest {
         Due.same(198, x.worn(3));
         Due.same(24, x.batch(x.press(0, 3, 1), 'b'));
         Due.same(200, x.worn(3));
-        Due.unsupported(x, () -> x.press(0, 3, 1));
+        Due.unsupported(() -> x.press(0, 3, 1));
         Due.same(20, x.batch(x.press(0, 2, 101), 'b'));
         Due.same(202, x.worn(2));
-        Due.unsupported(x, () -> x.press(0, 2, 1));
+        Due.unsupported(() -> x.press(0, 2, 1));
         Due.same(200, x.renew(3));
         Due.same(0, x.worn(3));
         Due.same(202, x.worn(2));
         Due.same(0, x.renew(3));
         Due.same(20, x.batch(x.press(0, 3, 1), 'b'));
         for (int die : new int[] {-1, 4, Integer.MAX_VALUE, Integer.MIN_VALUE}) {
-            Due.badArgument(x, () -> x.worn(die));
-            Due.badArgument(x, () -> x.renew(die));
+            Due.badArgument(() -> x.worn(die));
+            Due.badArgument(() -> x.renew(die));
         }
         Due.same(2, x.renew(3));
         x.press(0, 0, 4);
         Due.same(8, x.renew(0));
-        Graphline fine = Bench.mixed();
+        Graphline fine = Bench.mixed().told();
         fine.press(0, 1, 9);
         Due.same(1, fine.worn(1));
         fine.press(0, 1, 4);
@@ -101,31 +101,31 @@ public final class LeadsTest {
         Due.same(199, x.worn(0));
         Due.same(24, x.batch(x.press(0, 0, 1), 'b'));
         Due.same(200, x.worn(0));
-        Due.unsupported(x, () -> x.press(0, 0, 1));
+        Due.unsupported(() -> x.press(0, 0, 1));
     }
 
     private static void pressFully() {
-        Graphline x = Bench.mixed();
+        Graphline x = Bench.mixed().told();
         for (int i = 0; i < 16; i++) {
             Due.same(i, x.press(0, 0, 1));
             Due.same(20, x.batch(i, 'n'));
         }
-        Due.badState(x, () -> x.press(0, 0, 1));
-        Due.unsupported(x, () -> x.press(0, 0, 85));
-        Due.badArgument(x, () -> x.press(0, 4, 1));
-        Due.outOfBounds(x, () -> x.press(1, 0, 1));
+        Due.badState(() -> x.press(0, 0, 1));
+        Due.unsupported(() -> x.press(0, 0, 85));
+        Due.badArgument(() -> x.press(0, 4, 1));
+        Due.outOfBounds(() -> x.press(1, 0, 1));
         Due.same(84, x.mixture(0, 'k'));
     }
 
     private static void dry() {
-        Graphline x = Bench.mixed();
+        Graphline x = Bench.mixed().told();
         for (int i = 0; i < 6; i++) {
             x.press(0, 0, 1);
         }
-        Due.outOfBounds(x, () -> x.dry(6, 0));
-        Due.outOfBounds(x, () -> x.dry(-1, 1));
-        Due.badArgument(x, () -> x.dry(0, 0));
-        Due.badArgument(x, () -> x.dry(0, 6));
+        Due.outOfBounds(() -> x.dry(6, 0));
+        Due.outOfBounds(() -> x.dry(-1, 1));
+        Due.badArgument(() -> x.dry(0, 0));
+        Due.badArgument(() -> x.dry(0, 6));
         Due.same(0, x.batch(0, 'r'));
         Due.same(18, x.dry(0, 1));
         Due.same(9, x.dry(1, 2));
@@ -135,8 +135,8 @@ public final class LeadsTest {
         Due.same(104, x.dry(4, 5));
         Due.same(104, x.batch(4, 'r'));
         Due.same(18, x.batch(0, 'r'));
-        Due.unsupported(x, () -> x.dry(0, 1));
-        Due.badArgument(x, () -> x.dry(0, 6));
+        Due.unsupported(() -> x.dry(0, 1));
+        Due.badArgument(() -> x.dry(0, 6));
         for (int i = 0; i < 19; i++) {
             x.go(500);
         }
@@ -163,7 +163,7 @@ public final class LeadsTest {
         most.dry(0, 5);
         Due.same(1600, most.batch(0, 'w'));
         Due.same(18400, most.batch(0, 'n'));
-        Graphline fine = Bench.mixed();
+        Graphline fine = Bench.mixed().told();
         fine.press(0, 0, 100);
         Due.same(0, fine.batch(0, 'w'));
         fine.dry(0, 3);
@@ -172,45 +172,45 @@ public final class LeadsTest {
     }
 
     private static void fire() {
-        Graphline x = Bench.mixed();
+        Graphline x = Bench.mixed().told();
         x.press(0, 0, 1);
         x.press(0, 0, 1);
-        Due.outOfBounds(x, () -> x.fire(2, 2, 0, 0));
-        Due.outOfBounds(x, () -> x.fire(-1, 0, 900, 1));
-        Due.badArgument(x, () -> x.fire(0, -1, 900, 1));
-        Due.badArgument(x, () -> x.fire(0, 2, 900, 1));
-        Due.badArgument(x, () -> x.fire(0, 0, 699, 1));
-        Due.badArgument(x, () -> x.fire(0, 0, 1201, 1));
-        Due.badArgument(x, () -> x.fire(0, 0, 900, 0));
-        Due.badArgument(x, () -> x.fire(0, 0, 900, 13));
-        Due.unsupported(x, () -> x.fire(0, 0, 900, 1));
+        Due.outOfBounds(() -> x.fire(2, 2, 0, 0));
+        Due.outOfBounds(() -> x.fire(-1, 0, 900, 1));
+        Due.badArgument(() -> x.fire(0, -1, 900, 1));
+        Due.badArgument(() -> x.fire(0, 2, 900, 1));
+        Due.badArgument(() -> x.fire(0, 0, 699, 1));
+        Due.badArgument(() -> x.fire(0, 0, 1201, 1));
+        Due.badArgument(() -> x.fire(0, 0, 900, 0));
+        Due.badArgument(() -> x.fire(0, 0, 900, 13));
+        Due.unsupported(() -> x.fire(0, 0, 900, 1));
         x.dry(0, 1);
-        Due.unsupported(x, () -> x.fire(0, 0, 900, 1));
+        Due.unsupported(() -> x.fire(0, 0, 900, 1));
         x.go(17);
-        Due.unsupported(x, () -> x.fire(0, 0, 900, 1));
+        Due.unsupported(() -> x.fire(0, 0, 900, 1));
         x.go(1);
         Due.same(-1, x.batch(0, 'f'));
         Due.same(0, x.fire(0, 0, 900, 12));
         Due.same(0, x.batch(0, 'f'));
         Due.same(30, x.batch(0, 'r'));
-        Due.unsupported(x, () -> x.fire(0, 1, 900, 1));
+        Due.unsupported(() -> x.fire(0, 1, 900, 1));
         x.go(12);
-        Due.unsupported(x, () -> x.fire(0, 0, 900, 1));
-        Due.badArgument(x, () -> x.fire(0, 2, 900, 1));
+        Due.unsupported(() -> x.fire(0, 0, 900, 1));
+        Due.badArgument(() -> x.fire(0, 2, 900, 1));
     }
 
     private static void kilns() {
-        Graphline x = Bench.mixed();
+        Graphline x = Bench.mixed().told();
         for (int i = 0; i < 4; i++) {
             x.press(0, 0, 1);
             x.dry(i, 5);
         }
         x.go(4);
         Due.same(0, x.fire(2, 1, 1200, 2));
-        Due.unsupported(x, () -> x.fire(0, 1, 700, 1));
+        Due.unsupported(() -> x.fire(0, 1, 700, 1));
         Due.same(1, x.fire(0, 0, 700, 1));
         x.go(1);
-        Due.unsupported(x, () -> x.fire(1, 1, 700, 1));
+        Due.unsupported(() -> x.fire(1, 1, 700, 1));
         Due.same(2, x.fire(1, 0, 700, 1));
         x.go(1);
         Due.same(3, x.fire(3, 1, 700, 1));
@@ -221,7 +221,7 @@ public final class LeadsTest {
     }
 
     private static void strengthAndDarkness() {
-        Graphline x = Bench.fired();
+        Graphline x = Bench.fired().told();
         Due.same(195, x.batch(0, 's'));
         Due.same(936, x.batch(0, 'd'));
         fires(90, 3, 4, 60, 40, 5, 900, 6, 348, 565);
@@ -252,26 +252,26 @@ public final class LeadsTest {
     }
 
     private static void soak() {
-        Graphline x = Bench.mixed();
+        Graphline x = Bench.mixed().told();
         x.press(0, 0, 10);
-        Due.outOfBounds(x, () -> x.soak(1, 0));
-        Due.outOfBounds(x, () -> x.soak(-1, 1));
-        Due.badArgument(x, () -> x.soak(0, 0));
-        Due.badArgument(x, () -> x.soak(0, 6));
-        Due.unsupported(x, () -> x.soak(0, 1));
+        Due.outOfBounds(() -> x.soak(1, 0));
+        Due.outOfBounds(() -> x.soak(-1, 1));
+        Due.badArgument(() -> x.soak(0, 0));
+        Due.badArgument(() -> x.soak(0, 6));
+        Due.unsupported(() -> x.soak(0, 1));
         x.dry(0, 5);
         x.go(4);
-        Due.unsupported(x, () -> x.soak(0, 1));
+        Due.unsupported(() -> x.soak(0, 1));
         x.fire(0, 0, 700, 2);
         x.go(1);
-        Due.unsupported(x, () -> x.soak(0, 1));
+        Due.unsupported(() -> x.soak(0, 1));
         x.go(1);
         Due.same(200, x.batch(0, 's'));
         Due.same(250, x.soak(0, 5));
         Due.same(250, x.batch(0, 's'));
         Due.same(976, x.batch(0, 'd'));
-        Due.unsupported(x, () -> x.soak(0, 1));
-        Due.badArgument(x, () -> x.soak(0, 6));
+        Due.unsupported(() -> x.soak(0, 1));
+        Due.badArgument(() -> x.soak(0, 6));
         Due.same(6, x.batch(0, 'r'));
         Graphline dark = new Graphline();
         dark.lot('g', 99, 1, 500);
@@ -288,7 +288,7 @@ public final class LeadsTest {
     }
 
     private static void batch() {
-        Graphline x = Bench.mixed();
+        Graphline x = Bench.mixed().told();
         x.press(0, 0, 10);
         Due.same(200, x.batch(0, 'n'));
         Due.same(0, x.batch(0, 'w'));
@@ -297,33 +297,33 @@ public final class LeadsTest {
         Due.same(0, x.batch(0, 's'));
         Due.same(0, x.batch(0, 'd'));
         Due.same(-1, x.batch(0, 'f'));
-        Due.badArgument(x, () -> x.batch(0, 'k'));
-        Due.badArgument(x, () -> x.batch(0, 'N'));
-        Due.outOfBounds(x, () -> x.batch(1, 'k'));
-        Due.outOfBounds(x, () -> x.batch(-1, 'n'));
-        Due.outOfBounds(x, () -> x.batch(Integer.MAX_VALUE, 'n'));
+        Due.badArgument(() -> x.batch(0, 'k'));
+        Due.badArgument(() -> x.batch(0, 'N'));
+        Due.outOfBounds(() -> x.batch(1, 'k'));
+        Due.outOfBounds(() -> x.batch(-1, 'n'));
+        Due.outOfBounds(() -> x.batch(Integer.MAX_VALUE, 'n'));
     }
 
     private static void draw() {
-        Graphline x = Bench.mixed();
+        Graphline x = Bench.mixed().told();
         x.press(0, 0, 10);
-        Due.outOfBounds(x, () -> x.draw(1));
-        Due.outOfBounds(x, () -> x.draw(-1));
-        Due.unsupported(x, () -> x.draw(0));
+        Due.outOfBounds(() -> x.draw(1));
+        Due.outOfBounds(() -> x.draw(-1));
+        Due.unsupported(() -> x.draw(0));
         x.dry(0, 1);
         x.go(18);
-        Due.unsupported(x, () -> x.draw(0));
+        Due.unsupported(() -> x.draw(0));
         x.fire(0, 0, 700, 2);
-        Due.unsupported(x, () -> x.draw(0));
+        Due.unsupported(() -> x.draw(0));
         x.go(1);
-        Due.unsupported(x, () -> x.draw(0));
+        Due.unsupported(() -> x.draw(0));
         x.go(1);
         Due.same(936, x.draw(0));
         Due.same(200, x.batch(0, 'n'));
     }
 
     private static void wheelDrifts() {
-        Graphline x = Bench.fired();
+        Graphline x = Bench.fired().told();
         for (int i = 0; i < 24; i++) {
             Due.same(936 + i / 8 * 3, x.draw(0));
         }
@@ -343,7 +343,7 @@ public final class LeadsTest {
     }
 
     private static void wheelEndsAt999() {
-        Graphline x = Bench.fired();
+        Graphline x = Bench.fired().told();
         for (int i = 0; i < 8 * 21; i++) {
             x.draw(0);
         }

@@ -21,63 +21,63 @@ public final class PencilsTest {
     }
 
     private static void layWrongly() {
-        Graphline x = Bench.grooved();
-        Due.outOfBounds(x, () -> x.lay(1, 0, 'x', 0, -1));
-        Due.outOfBounds(x, () -> x.lay(0, 1, '6', 1, 0));
-        Due.outOfBounds(x, () -> x.lay(-1, 0, '6', 1, 0));
-        Due.outOfBounds(x, () -> x.lay(0, -1, '6', 1, 0));
-        Due.badArgument(x, () -> x.lay(0, 0, '5', 1, 0));
-        Due.badArgument(x, () -> x.lay(0, 0, (char) 6, 1, 0));
-        Due.badArgument(x, () -> x.lay(0, 0, '6', 0, 0));
-        Due.badArgument(x, () -> x.lay(0, 0, '6', 501, 0));
-        Due.badArgument(x, () -> x.lay(0, 0, '6', 1, -1));
-        Due.badArgument(x, () -> x.lay(0, 0, '6', 1, 10));
+        Graphline x = Bench.grooved().told();
+        Due.outOfBounds(() -> x.lay(1, 0, 'x', 0, -1));
+        Due.outOfBounds(() -> x.lay(0, 1, '6', 1, 0));
+        Due.outOfBounds(() -> x.lay(-1, 0, '6', 1, 0));
+        Due.outOfBounds(() -> x.lay(0, -1, '6', 1, 0));
+        Due.badArgument(() -> x.lay(0, 0, '5', 1, 0));
+        Due.badArgument(() -> x.lay(0, 0, (char) 6, 1, 0));
+        Due.badArgument(() -> x.lay(0, 0, '6', 0, 0));
+        Due.badArgument(() -> x.lay(0, 0, '6', 501, 0));
+        Due.badArgument(() -> x.lay(0, 0, '6', 1, -1));
+        Due.badArgument(() -> x.lay(0, 0, '6', 1, 10));
         Due.same(0, x.lay(0, 0, '6', 500, 0));
         Due.same(500, x.batch(0, 'n'));
         Due.same(1, x.lay(0, 0, '6', 499, 9));
         Due.same(1, x.batch(0, 'n'));
         Due.same(164, x.slat(0, 'n'));
-        Due.unsupported(x, () -> x.lay(0, 0, '6', 2, 9));
+        Due.unsupported(() -> x.lay(0, 0, '6', 2, 9));
         Due.same(2, x.lay(0, 0, '6', 1, 9));
         Due.same(0, x.batch(0, 'n'));
-        Due.unsupported(x, () -> x.lay(0, 0, '6', 1, 9));
+        Due.unsupported(() -> x.lay(0, 0, '6', 1, 9));
         x.slats('c', 0, 0, 500);
-        Due.unsupported(x, () -> x.lay(0, 1, '6', 1, 0));
+        Due.unsupported(() -> x.lay(0, 1, '6', 1, 0));
     }
 
     private static void layReady() {
-        Graphline x = Bench.mixed();
+        Graphline x = Bench.mixed().told();
         x.press(0, 0, 10);
         x.slats('c', 0, 0, 100);
-        Due.unsupported(x, () -> x.lay(0, 0, '6', 1, 0));
+        Due.unsupported(() -> x.lay(0, 0, '6', 1, 0));
         x.groove(0, 10);
-        Due.unsupported(x, () -> x.lay(0, 0, '6', 1, 0));
+        Due.unsupported(() -> x.lay(0, 0, '6', 1, 0));
         x.dry(0, 5);
         x.go(4);
-        Due.unsupported(x, () -> x.lay(0, 0, '6', 1, 0));
+        Due.unsupported(() -> x.lay(0, 0, '6', 1, 0));
         x.fire(0, 0, 700, 3);
         x.go(2);
-        Due.unsupported(x, () -> x.lay(0, 0, '6', 1, 0));
+        Due.unsupported(() -> x.lay(0, 0, '6', 1, 0));
         x.season(0, 2);
         x.go(1);
-        Due.unsupported(x, () -> x.lay(0, 0, '6', 1, 0));
+        Due.unsupported(() -> x.lay(0, 0, '6', 1, 0));
         x.go(1);
         Due.same(0, x.lay(0, 0, '6', 1, 0));
         Due.same(14, x.run(0, 'r'));
     }
 
     private static void fit() {
-        Graphline x = Bench.fired();
+        Graphline x = Bench.fired().told();
         int[] widths = {8, 9, 10, 11, 12};
         for (int i = 0; i < widths.length; i++) {
             x.slats('c', 3 + i, 0, 100);
             x.groove(i, widths[i]);
         }
-        Due.unsupported(x, () -> x.lay(0, 0, '6', 1, 0));
+        Due.unsupported(() -> x.lay(0, 0, '6', 1, 0));
         Due.same(2 + 1, x.run(x.lay(0, 1, '6', 1, 0), 'o'));
         Due.same(0 + 1, x.run(x.lay(0, 2, '6', 1, 0), 'o'));
         Due.same(2 + 1, x.run(x.lay(0, 3, '6', 1, 0), 'o'));
-        Due.unsupported(x, () -> x.lay(0, 4, '6', 1, 0));
+        Due.unsupported(() -> x.lay(0, 4, '6', 1, 0));
         Graphline worn = new Graphline();
         worn.lot('g', 90, 9, 500);
         worn.lot('c', 80, 9, 500);
@@ -97,7 +97,7 @@ public final class PencilsTest {
         worn.groove(2, 9);
         Due.same(1 + 2, worn.run(worn.lay(1, 0, '0', 1, 0), 'o'));
         Due.same(1 + 2, worn.run(worn.lay(1, 1, '0', 1, 0), 'o'));
-        Due.unsupported(worn, () -> worn.lay(1, 2, '0', 1, 0));
+        Due.unsupported(() -> worn.lay(1, 2, '0', 1, 0));
     }
 
     private static void shapes() {
@@ -114,14 +114,14 @@ public final class PencilsTest {
     }
 
     private static void lays(char shape, int many, int slats) {
-        Graphline x = Bench.fired();
+        Graphline x = Bench.fired().told();
         x.slats('c', 0, 0, slats);
         x.slats('c', 0, 0, slats - 1);
         x.slats('c', 0, 0, slats + 1);
         for (int i = 0; i < 3; i++) {
             x.groove(i, 10);
         }
-        Due.unsupported(x, () -> x.lay(0, 1, shape, many, 0));
+        Due.unsupported(() -> x.lay(0, 1, shape, many, 0));
         Due.same(0, x.lay(0, 0, shape, many, 0));
         Due.same(0, x.slat(0, 'n'));
         Due.same(1, x.lay(0, 2, shape, many, 0));
@@ -131,75 +131,75 @@ public final class PencilsTest {
     }
 
     private static void layFully() {
-        Graphline x = Bench.grooved();
+        Graphline x = Bench.grooved().told();
         for (int i = 0; i < 16; i++) {
             Due.same(i, x.lay(0, 0, '6', 1, 0));
         }
-        Due.badState(x, () -> x.lay(0, 0, '6', 1, 0));
+        Due.badState(() -> x.lay(0, 0, '6', 1, 0));
         x.slats('c', 0, 0, 500);
-        Due.unsupported(x, () -> x.lay(0, 1, '6', 1, 0));
-        Due.badArgument(x, () -> x.lay(0, 0, 'x', 1, 0));
-        Due.outOfBounds(x, () -> x.lay(1, 0, 'x', 1, 0));
+        Due.unsupported(() -> x.lay(0, 1, '6', 1, 0));
+        Due.badArgument(() -> x.lay(0, 0, 'x', 1, 0));
+        Due.outOfBounds(() -> x.lay(1, 0, 'x', 1, 0));
     }
 
     private static void coat() {
-        Graphline x = Bench.laid(100);
-        Due.outOfBounds(x, () -> x.coat(1, 10));
-        Due.outOfBounds(x, () -> x.coat(-1, 0));
-        Due.badArgument(x, () -> x.coat(0, -1));
-        Due.badArgument(x, () -> x.coat(0, 10));
-        Due.unsupported(x, () -> x.coat(0, 0));
+        Graphline x = Bench.laid(100).told();
+        Due.outOfBounds(() -> x.coat(1, 10));
+        Due.outOfBounds(() -> x.coat(-1, 0));
+        Due.badArgument(() -> x.coat(0, -1));
+        Due.badArgument(() -> x.coat(0, 10));
+        Due.unsupported(() -> x.coat(0, 0));
         x.go(5);
-        Due.unsupported(x, () -> x.coat(0, 0));
+        Due.unsupported(() -> x.coat(0, 0));
         x.go(1);
         Due.same(-1, x.run(0, 'l'));
         x.on('c', false);
-        Due.unsupported(x, () -> x.coat(0, 0));
+        Due.unsupported(() -> x.coat(0, 0));
         x.on('c', true);
         x.shaft(false);
-        Due.unsupported(x, () -> x.coat(0, 0));
+        Due.unsupported(() -> x.coat(0, 0));
         x.shaft(true);
         x.belt('c', 'p');
         x.on('p', false);
-        Due.unsupported(x, () -> x.coat(0, 0));
+        Due.unsupported(() -> x.coat(0, 0));
         x.on('p', true);
         for (int i = 1; i <= 8; i++) {
             Due.same(i, x.coat(0, i));
             Due.same(i, x.run(0, 'c'));
             Due.same(i, x.run(0, 'l'));
             Due.same(25 + 8 * i, x.run(0, 'r'));
-            Due.unsupported(x, () -> x.coat(0, 0));
+            Due.unsupported(() -> x.coat(0, 0));
             x.go(7);
-            Due.unsupported(x, () -> x.coat(0, 0));
+            Due.unsupported(() -> x.coat(0, 0));
             x.go(1);
         }
-        Due.unsupported(x, () -> x.coat(0, 0));
-        Due.badArgument(x, () -> x.coat(0, 10));
+        Due.unsupported(() -> x.coat(0, 0));
+        Due.badArgument(() -> x.coat(0, 10));
         Due.same(8, x.run(0, 'c'));
     }
 
     private static void stamp() {
-        Graphline x = Bench.laid(100);
+        Graphline x = Bench.laid(100).told();
         x.go(6);
-        Due.outOfBounds(x, () -> x.stamp(1));
-        Due.outOfBounds(x, () -> x.stamp(-1));
+        Due.outOfBounds(() -> x.stamp(1));
+        Due.outOfBounds(() -> x.stamp(-1));
         for (int i = 0; i < 3; i++) {
-            Due.unsupported(x, () -> x.stamp(0));
+            Due.unsupported(() -> x.stamp(0));
             x.coat(0, 0);
             x.go(7);
-            Due.unsupported(x, () -> x.stamp(0));
+            Due.unsupported(() -> x.stamp(0));
             x.go(1);
         }
         Due.same(-1, x.run(0, 'g'));
         Due.same(18, x.stamp(0));
         Due.same(18, x.run(0, 'g'));
-        Due.unsupported(x, () -> x.stamp(0));
+        Due.unsupported(() -> x.stamp(0));
         Due.same(4, x.coat(0, 9));
         Due.same(57, x.run(0, 'r'));
     }
 
     private static void stampDraws() {
-        Graphline x = Bench.coated(100);
+        Graphline x = Bench.coated(100).told();
         for (int i = 0; i < 8 * 5 - 1; i++) {
             x.draw(0);
         }
@@ -229,33 +229,33 @@ public final class PencilsTest {
         x.gross(0);
         x.go(6);
         Bench.coats(x, 0);
-        Due.unsupported(x, () -> x.pack(0, 0, 1));
+        Due.unsupported(() -> x.pack(0, 0, 1));
         Due.same(0, x.stamp(0));
-        Due.unsupported(x, () -> x.stamp(0));
+        Due.unsupported(() -> x.stamp(0));
         Due.same(60, x.erase(0, 1));
         Due.same(60, x.pack(0, 0, 60));
         Due.same(true, x.claim(0));
     }
 
     private static void erase() {
-        Graphline x = Bench.coated(100);
-        Due.outOfBounds(x, () -> x.erase(1, 10));
-        Due.outOfBounds(x, () -> x.erase(-1, 0));
-        Due.badArgument(x, () -> x.erase(0, -1));
-        Due.badArgument(x, () -> x.erase(0, 10));
-        Due.unsupported(x, () -> x.erase(0, 0));
+        Graphline x = Bench.coated(100).told();
+        Due.outOfBounds(() -> x.erase(1, 10));
+        Due.outOfBounds(() -> x.erase(-1, 0));
+        Due.badArgument(() -> x.erase(0, -1));
+        Due.badArgument(() -> x.erase(0, 10));
+        Due.unsupported(() -> x.erase(0, 0));
         x.stamp(0);
         x.coat(0, 1);
         x.fall(0, 9);
         x.sample(0, 3);
         Due.same(97, x.erase(0, 9));
-        Due.unsupported(x, () -> x.erase(0, 0));
-        Due.badArgument(x, () -> x.erase(0, 10));
-        Due.same(50, Bench.stamped(50).erase(0, 0));
+        Due.unsupported(() -> x.erase(0, 0));
+        Due.badArgument(() -> x.erase(0, 10));
+        Due.same(50, Bench.stamped(50).told().erase(0, 0));
     }
 
     private static void run() {
-        Graphline x = Bench.laid(100);
+        Graphline x = Bench.laid(100).told();
         Due.same(100, x.run(0, 'n'));
         Due.same(0, x.run(0, 'b'));
         Due.same(0, x.run(0, 'c'));
@@ -263,19 +263,19 @@ public final class PencilsTest {
         Due.same(-1, x.run(0, 'g'));
         Due.same(0, x.run(0, 'o'));
         Due.same(25, x.run(0, 'r'));
-        Due.badArgument(x, () -> x.run(0, 'h'));
-        Due.badArgument(x, () -> x.run(0, 'N'));
-        Due.outOfBounds(x, () -> x.run(1, 'h'));
-        Due.outOfBounds(x, () -> x.run(-1, 'n'));
-        Due.outOfBounds(x, () -> x.run(Integer.MAX_VALUE, 'n'));
+        Due.badArgument(() -> x.run(0, 'h'));
+        Due.badArgument(() -> x.run(0, 'N'));
+        Due.outOfBounds(() -> x.run(1, 'h'));
+        Due.outOfBounds(() -> x.run(-1, 'n'));
+        Due.outOfBounds(() -> x.run(Integer.MAX_VALUE, 'n'));
     }
 
     private static void fall() {
-        Graphline x = Bench.laid(100);
-        Due.outOfBounds(x, () -> x.fall(1, 0));
-        Due.outOfBounds(x, () -> x.fall(-1, 1));
-        Due.badArgument(x, () -> x.fall(0, 0));
-        Due.badArgument(x, () -> x.fall(0, 10));
+        Graphline x = Bench.laid(100).told();
+        Due.outOfBounds(() -> x.fall(1, 0));
+        Due.outOfBounds(() -> x.fall(-1, 1));
+        Due.badArgument(() -> x.fall(0, 0));
+        Due.badArgument(() -> x.fall(0, 10));
         Due.same(0, x.fall(0, 1));
         Due.same(0, x.fall(0, 4));
         Due.same(1, x.fall(0, 5));
@@ -285,15 +285,15 @@ public final class PencilsTest {
         Due.same(17, x.fall(0, 9));
         Due.same(100, x.run(0, 'b'));
         Due.same(0, x.fall(0, 9));
-        Due.same(197, Bench.laid(479).fall(0, 9));
-        Due.same(0, Bench.laid(500).fall(0, 4));
-        Graphline strong = Bench.laid(100);
+        Due.same(197, Bench.laid(479).told().fall(0, 9));
+        Due.same(0, Bench.laid(500).told().fall(0, 4));
+        Graphline strong = Bench.laid(100).told();
         strong.soak(0, 5);
         Due.same(28, strong.fall(0, 9));
     }
 
     private static void fallOffCentre() {
-        Graphline x = Bench.fired();
+        Graphline x = Bench.fired().told();
         x.slats('c', 8, 0, 200);
         x.groove(0, 9);
         x.lay(0, 0, '6', 100, 0);
@@ -304,14 +304,14 @@ public final class PencilsTest {
     }
 
     private static void sample() {
-        Graphline x = Bench.laid(60);
-        Due.outOfBounds(x, () -> x.sample(1, 0));
-        Due.outOfBounds(x, () -> x.sample(-1, 1));
-        Due.badArgument(x, () -> x.sample(0, 0));
-        Due.badArgument(x, () -> x.sample(0, 51));
+        Graphline x = Bench.laid(60).told();
+        Due.outOfBounds(() -> x.sample(1, 0));
+        Due.outOfBounds(() -> x.sample(-1, 1));
+        Due.badArgument(() -> x.sample(0, 0));
+        Due.badArgument(() -> x.sample(0, 51));
         Due.same(0, x.sample(0, 50));
         Due.same(10, x.run(0, 'n'));
-        Due.unsupported(x, () -> x.sample(0, 11));
+        Due.unsupported(() -> x.sample(0, 11));
         for (int i = 0; i < 20; i++) {
             x.fall(0, 9);
         }
@@ -320,14 +320,14 @@ public final class PencilsTest {
         Due.same(6, x.sample(0, 6));
         Due.same(0, x.run(0, 'n'));
         Due.same(0, x.run(0, 'b'));
-        Due.unsupported(x, () -> x.sample(0, 1));
+        Due.unsupported(() -> x.sample(0, 1));
         Due.same(0, x.missing());
     }
 
     /** The same walk of z, in wide numbers, over a run with 42 broken of 100. */
     private static void sampleByZ() {
         for (int first : new int[] {1, 2, 48271, 2147483646, 1234567890}) {
-            Graphline x = Bench.laid(100);
+            Graphline x = Bench.laid(100).told();
             x.fall(0, 9);
             x.fall(0, 5);
             x.seed(first);
@@ -355,11 +355,11 @@ public final class PencilsTest {
     }
 
     private static void seed() {
-        Graphline x = Bench.laid(10);
-        Due.badArgument(x, () -> x.seed(0));
-        Due.badArgument(x, () -> x.seed(-1));
-        Due.badArgument(x, () -> x.seed(Integer.MAX_VALUE));
-        Due.badArgument(x, () -> x.seed(Integer.MIN_VALUE));
+        Graphline x = Bench.laid(10).told();
+        Due.badArgument(() -> x.seed(0));
+        Due.badArgument(() -> x.seed(-1));
+        Due.badArgument(() -> x.seed(Integer.MAX_VALUE));
+        Due.badArgument(() -> x.seed(Integer.MIN_VALUE));
         Due.same(1, x.seed(2147483646));
         Due.same(2147483646, x.seed(1));
         x.sample(0, 1);

@@ -6,32 +6,34 @@ import java.util.TreeMap;
 
 /**
  * Long runs of calls by chance, from fixed seeds. A second works is spared the calls that throw: its answers stay
- * the same, as a method that throws changes nothing. A call throws what the document lists for it alone, and by a
- * throw statement of its own; the works stays sound.
+ * the same, and so do those of later calls, as a method that throws changes nothing. A call throws what the document
+ * lists for it alone, and by a throw statement of its own; the works stays sound.
  */
 public final class RandomCallsTest {
-    private static final int RUNS = 2000;
-    /** With those that Bench makes ahead of them, at most 512. */
-    private static final int CALLS = 480;
+    private static final int RUNS = 6000;
+    /** With those that Bench makes ahead of them, and Later behind them, at most 512. */
+    private static final int CALLS = 300;
+    /** To ask Later costs far more than the calls themselves. */
+    private static final int RUNS_A_RETELLING = 20;
     private static final String INDEX = "IndexOutOfBoundsException";
     private static final String ARGUMENT = "IllegalArgumentException";
     private static final String UNSUPPORTED = "UnsupportedOperationException";
     private static final String STATE = "IllegalStateException";
     private static final String ARITHMETIC = "ArithmeticException";
 
-    private interface Answer {
-        Object of(Graphline x);
-    }
-
     private interface Maker {
-        Answer make(RandomCallsTest here);
+        Story.Step make(RandomCallsTest here);
     }
 
     private record Kind(String name, int weight, List<String> thrown, Maker maker) {
     }
 
-    private final Random random;
     private static final Map<String, Integer> seen = new TreeMap<>();
+
+    private final Random random;
+    private final List<Story.Step> told = new ArrayList<>();
+    private final List<Story.Step> sparing = new ArrayList<>();
+    private int made = 0;
 
     private RandomCallsTest(long seed) {
         random = new Random(seed);
@@ -40,7 +42,7 @@ public final class RandomCallsTest {
     public static void main(String[] args) {
         List<Kind> kinds = kinds();
         for (int seed = 0; seed < RUNS; seed++) {
-            new RandomCallsTest(seed).twins(kinds);
+            new RandomCallsTest(seed).twins(kinds, seed % RUNS_A_RETELLING == 0);
         }
         for (Kind kind : kinds) {
             Due.same(kind.name + " answered: true", kind.name + " answered: " + seen.containsKey(kind.name));
@@ -52,25 +54,31 @@ public final class RandomCallsTest {
         Due.end();
     }
 
-    private void twins(List<Kind> kinds) {
-        int from = random.nextInt(6);
-        Graphline all = begun(from);
-        Graphline spared = begun(from);
+    private void twins(List<Kind> kinds, boolean isRetold) {
+        Story begun = begun(random.nextInt(8));
+        Graphline all = begun.told();
+        Graphline spared = begun.told();
         List<Kind> favoured = favoured(kinds);
-        for (int i = 0; i < CALLS; i++) {
+        while (made < CALLS) {
             step(favoured.get(random.nextInt(favoured.size())), all, spared);
         }
         Due.same(true, all.isSound());
         Due.same(0, all.missing());
-        Due.same(Readings.of(spared), Readings.of(all));
+        if (isRetold) {
+            String due = begun.then(sparing.toArray(new Story.Step[0])).later();
+            Due.same(due, begun.then(told.toArray(new Story.Step[0])).later());
+        }
     }
 
-    private static Graphline begun(int from) {
+    private static Story begun(int from) {
         switch (from) {
-            case 0: return new Graphline();
+            case 0: return new Story();
             case 1: return Bench.mixed();
             case 2: return Bench.grooved();
             case 3: return Bench.coated(400);
+            case 4: return Bench.grooved().times(14, x -> x.lay(0, 0, '6', 1, 0));
+            case 5: return Bench.stamped(300).then(x -> x.gross(18), x -> x.pack(0, 0, 100));
+            case 6: return Bench.stamped(500).times(19, x -> x.go(500));
             default: return Bench.stamped(500);
         }
     }
@@ -94,19 +102,31 @@ public final class RandomCallsTest {
     }
 
     private void step(Kind kind, Graphline all, Graphline spared) {
-        Answer answer = kind.maker.make(this);
+        Story.Step answer = kind.maker.make(this);
+        made++;
         Object got;
         try {
-            got = answer.of(all);
+            got = answer.on(all);
         } catch (RuntimeException e) {
             String name = e.getClass().getSimpleName();
             Due.same(kind.name + " " + name + ": own true, listed true",
                 kind.name + " " + name + ": own " + Due.isOwn(e) + ", listed " + kind.thrown.contains(name));
             seen.merge(kind.name + " " + name, 1, Integer::sum);
+            told.add(x -> refused(answer, x));
             return;
         }
         seen.merge(kind.name, 1, Integer::sum);
-        Due.same(kind.name + got, kind.name + answer.of(spared));
+        told.add(answer);
+        sparing.add(answer);
+        Due.same(kind.name + got, kind.name + answer.on(spared));
+    }
+
+    private static Object refused(Story.Step answer, Graphline x) {
+        try {
+            return answer.on(x);
+        } catch (RuntimeException e) {
+            return null;
+        }
     }
 
     /** Mostly from least to most, at times a step or far beyond. */
@@ -350,6 +370,7 @@ public final class RandomCallsTest {
     }
 
     private int stampOr(Graphline x, int run, int grade) {
+        made++;
         try {
             int stamp = x.run(run, 'g');
             return stamp < 0 ? grade : stamp;
@@ -361,8 +382,8 @@ public final class RandomCallsTest {
     private static void addSums(List<Kind> out) {
         add(out, "missing", 2, List.of(), r -> x -> x.missing());
         add(out, "checksum", 3, List.of(), r -> x -> x.checksum());
-        add(out, "brokenShare", 3, List.of(ARITHMETIC), r -> x -> x.brokenShare());
-        add(out, "meanDarkness", 3, List.of(ARITHMETIC), r -> x -> x.meanDarkness());
+        add(out, "brokenShare", 6, List.of(ARITHMETIC), r -> x -> x.brokenShare());
+        add(out, "meanDarkness", 6, List.of(ARITHMETIC), r -> x -> x.meanDarkness());
         add(out, "isSound", 2, List.of(), r -> x -> x.isSound());
     }
 }

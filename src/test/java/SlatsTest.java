@@ -12,40 +12,40 @@ public final class SlatsTest {
 
     private static void slats() {
         Graphline x = new Graphline();
-        Due.badArgument(x, () -> x.slats('g', 4, 20, 100));
-        Due.badArgument(x, () -> x.slats('B', 4, 20, 100));
-        Due.badArgument(x, () -> x.slats('c', -1, 20, 100));
-        Due.badArgument(x, () -> x.slats('c', 10, 20, 100));
-        Due.badArgument(x, () -> x.slats('c', 4, -1, 100));
-        Due.badArgument(x, () -> x.slats('c', 4, 41, 100));
-        Due.badArgument(x, () -> x.slats('c', 4, 20, 0));
-        Due.badArgument(x, () -> x.slats('c', 4, 20, 501));
+        Due.badArgument(() -> x.slats('g', 4, 20, 100));
+        Due.badArgument(() -> x.slats('B', 4, 20, 100));
+        Due.badArgument(() -> x.slats('c', -1, 20, 100));
+        Due.badArgument(() -> x.slats('c', 10, 20, 100));
+        Due.badArgument(() -> x.slats('c', 4, -1, 100));
+        Due.badArgument(() -> x.slats('c', 4, 41, 100));
+        Due.badArgument(() -> x.slats('c', 4, 20, 0));
+        Due.badArgument(() -> x.slats('c', 4, 20, 501));
         Due.same(0, x.slats('c', 0, 0, 1));
         Due.same(1, x.slats('b', 9, 40, 500));
         for (int i = 2; i < 12; i++) {
             Due.same(i, x.slats('b', 3, 3, 3));
         }
-        Due.badState(x, () -> x.slats('c', 4, 20, 100));
-        Due.badArgument(x, () -> x.slats('x', 4, 20, 100));
+        Due.badState(() -> x.slats('c', 4, 20, 100));
+        Due.badArgument(() -> x.slats('x', 4, 20, 100));
         Due.same(3, x.slat(11, 'n'));
-        Due.outOfBounds(x, () -> x.slat(12, 'n'));
+        Due.outOfBounds(() -> x.slat(12, 'n'));
     }
 
     private static void season() {
         Graphline x = new Graphline();
         x.slats('c', 4, 40, 100);
         x.go(10);
-        Due.outOfBounds(x, () -> x.season(1, 0));
-        Due.outOfBounds(x, () -> x.season(-1, 1));
-        Due.badArgument(x, () -> x.season(0, 0));
-        Due.badArgument(x, () -> x.season(0, 201));
+        Due.outOfBounds(() -> x.season(1, 0));
+        Due.outOfBounds(() -> x.season(-1, 1));
+        Due.badArgument(() -> x.season(0, 0));
+        Due.badArgument(() -> x.season(0, 201));
         Due.same(0, x.slat(0, 'r'));
         Due.same(30, x.season(0, 20));
         Due.same(37, x.slat(0, 'w'));
-        Due.unsupported(x, () -> x.season(0, 1));
-        Due.badArgument(x, () -> x.season(0, 201));
+        Due.unsupported(() -> x.season(0, 1));
+        Due.badArgument(() -> x.season(0, 201));
         x.go(19);
-        Due.unsupported(x, () -> x.season(0, 1));
+        Due.unsupported(() -> x.season(0, 1));
         x.go(1);
         Due.same(31, x.season(0, 1));
         Due.same(37, x.slat(0, 'w'));
@@ -82,26 +82,26 @@ public final class SlatsTest {
         Graphline x = new Graphline();
         x.slats('c', 4, 16, 100);
         x.slats('b', 4, 10, 77);
-        Due.outOfBounds(x, () -> x.groove(2, 0));
-        Due.outOfBounds(x, () -> x.groove(-1, 10));
-        Due.badArgument(x, () -> x.groove(0, 4));
-        Due.badArgument(x, () -> x.groove(0, 31));
-        Due.unsupported(x, () -> x.groove(0, 10));
+        Due.outOfBounds(() -> x.groove(2, 0));
+        Due.outOfBounds(() -> x.groove(-1, 10));
+        Due.badArgument(() -> x.groove(0, 4));
+        Due.badArgument(() -> x.groove(0, 31));
+        Due.unsupported(() -> x.groove(0, 10));
         x.season(0, 30);
-        Due.unsupported(x, () -> x.groove(0, 10));
+        Due.unsupported(() -> x.groove(0, 10));
         x.go(30);
         Due.same(11, x.slat(0, 'w'));
-        Due.unsupported(x, () -> x.groove(0, 10));
+        Due.unsupported(() -> x.groove(0, 10));
         x.season(0, 6);
         Due.same(10, x.slat(0, 'w'));
         x.go(5);
-        Due.unsupported(x, () -> x.groove(0, 10));
+        Due.unsupported(() -> x.groove(0, 10));
         x.go(1);
         Due.same(0, x.slat(0, 'g'));
         Due.same(100, x.groove(0, 5));
         Due.same(5, x.slat(0, 'g'));
-        Due.unsupported(x, () -> x.groove(0, 10));
-        Due.badArgument(x, () -> x.groove(0, 31));
+        Due.unsupported(() -> x.groove(0, 10));
+        Due.badArgument(() -> x.groove(0, 31));
         Due.same(77, x.groove(1, 30));
         Due.same(30, x.slat(1, 'g'));
         Due.same(38, x.season(1, 2));
@@ -111,28 +111,28 @@ public final class SlatsTest {
         Graphline x = new Graphline();
         x.slats('c', 4, 0, 100);
         x.on('g', false);
-        Due.unsupported(x, () -> x.groove(0, 10));
+        Due.unsupported(() -> x.groove(0, 10));
         x.on('g', true);
         x.shaft(false);
-        Due.unsupported(x, () -> x.groove(0, 10));
+        Due.unsupported(() -> x.groove(0, 10));
         x.shaft(true);
         x.belt('g', 'm');
         x.on('m', false);
-        Due.unsupported(x, () -> x.groove(0, 10));
+        Due.unsupported(() -> x.groove(0, 10));
         x.belt('g', '-');
         Due.same(100, x.groove(0, 10));
     }
 
     private static void slat() {
-        Graphline x = Bench.laid(7);
+        Graphline x = Bench.laid(7).told();
         Due.same(496, x.slat(0, 'n'));
         Due.same(0, x.slat(0, 'w'));
         Due.same(10, x.slat(0, 'g'));
         Due.same(0, x.slat(0, 'r'));
-        Due.badArgument(x, () -> x.slat(0, 'x'));
-        Due.badArgument(x, () -> x.slat(0, 'G'));
-        Due.outOfBounds(x, () -> x.slat(1, 'x'));
-        Due.outOfBounds(x, () -> x.slat(-1, 'n'));
-        Due.outOfBounds(x, () -> x.slat(Integer.MIN_VALUE, 'n'));
+        Due.badArgument(() -> x.slat(0, 'x'));
+        Due.badArgument(() -> x.slat(0, 'G'));
+        Due.outOfBounds(() -> x.slat(1, 'x'));
+        Due.outOfBounds(() -> x.slat(-1, 'n'));
+        Due.outOfBounds(() -> x.slat(Integer.MIN_VALUE, 'n'));
     }
 }

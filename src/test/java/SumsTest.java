@@ -13,7 +13,7 @@ public final class SumsTest {
     private static void missing() {
         Graphline x = new Graphline();
         Due.same(0, x.missing());
-        Graphline full = Bench.stamped(300);
+        Graphline full = Bench.stamped(300).told();
         Due.same(0, full.missing());
         full.sample(0, 50);
         Due.same(0, full.missing());
@@ -40,7 +40,7 @@ public final class SumsTest {
     }
 
     private static void checksumOfAll() {
-        Graphline x = Bench.stamped(200);
+        Graphline x = Bench.stamped(200).told();
         x.press(0, 1, 2);
         x.fall(0, 9);
         x.lay(0, 0, '6', 30, 1);
@@ -53,7 +53,7 @@ public final class SumsTest {
             want = 31 * want + step;
         }
         Due.same(want, x.checksum());
-        Graphline many = Bench.mixed();
+        Graphline many = Bench.mixed().told();
         long wrapped = 7;
         for (int i = 0; i < 16; i++) {
             many.press(0, 0, i + 1 > 9 ? 1 : i + 1);
@@ -63,23 +63,23 @@ public final class SumsTest {
     }
 
     private static void brokenShare() {
-        Graphline x = Bench.grooved();
-        Due.thrown(ArithmeticException.class, x, () -> x.brokenShare());
+        Graphline x = Bench.grooved().told();
+        Due.thrown(ArithmeticException.class, () -> x.brokenShare());
         x.lay(0, 0, '6', 100, 0);
         Due.same(0.0f, x.brokenShare());
         x.fall(0, 9);
         Due.same(41f / 100f, x.brokenShare());
         x.lay(0, 0, '6', 23, 0);
         Due.same(41f / 123f, x.brokenShare());
-        Due.same(0.0f, Bench.laid(1).brokenShare());
-        Graphline gone = Bench.laid(50);
+        Due.same(0.0f, Bench.laid(1).told().brokenShare());
+        Graphline gone = Bench.laid(50).told();
         gone.sample(0, 50);
-        Due.thrown(ArithmeticException.class, gone, () -> gone.brokenShare());
+        Due.thrown(ArithmeticException.class, () -> gone.brokenShare());
     }
 
     private static void meanDarkness() {
-        Graphline x = Bench.mixed();
-        Due.thrown(ArithmeticException.class, x, () -> x.meanDarkness());
+        Graphline x = Bench.mixed().told();
+        Due.thrown(ArithmeticException.class, () -> x.meanDarkness());
         x.press(0, 0, 1);
         x.press(0, 0, 1);
         x.press(0, 0, 1);
@@ -88,7 +88,7 @@ public final class SumsTest {
         x.dry(1, 5);
         x.dry(2, 5);
         x.go(4);
-        Due.thrown(ArithmeticException.class, x, () -> x.meanDarkness());
+        Due.thrown(ArithmeticException.class, () -> x.meanDarkness());
         x.fire(0, 0, 700, 1);
         Due.same(936.0, x.meanDarkness());
         x.fire(1, 1, 1200, 1);
@@ -109,7 +109,7 @@ public final class SumsTest {
         x.shaft(false);
         x.on('c', false);
         Due.same(true, x.isSound());
-        Graphline full = Bench.stamped(300);
+        Graphline full = Bench.stamped(300).told();
         full.gross(18);
         full.gross(4);
         full.pack(0, 0, 100);
